@@ -1236,11 +1236,11 @@ public final class ObjectRules {
         }
 
         boolean isAccessor() {
-            return holds(GET | SET);
+            return (fields & (GET | SET)) != 0;
         }
 
         boolean isData() {
-            return holds(VALUE | WRITABLE);
+            return (fields & (VALUE | WRITABLE)) != 0;
         }
 
         boolean isFixedValue() {
@@ -1630,10 +1630,6 @@ public final class ObjectRules {
             return isSlot(slot) ? slotNexts[slot] : NO_SLOT;
         }
 
-        private int keyOf(int slot) {
-            return isSlot(slot) ? slotKeys[slot] : FOREIGN_KEY;
-        }
-
         private int flagsAt(int slot) {
             return isSlot(slot) ? slotFlags[slot] : 0;
         }
@@ -1676,22 +1672,25 @@ public final class ObjectRules {
 
         int find(int o, int key) {
             int slot = firstSlotOf(o);
-            for (int i = 0; i < KEYS && slot != NO_SLOT; i++) {
-                if (keyOf(slot) == key) {
+            for (int i = 0; i < KEYS && slot >= 0 && slot < MOST_PROPERTIES; i++) {
+                if (slotKeys[slot] == key) {
                     return slot;
                 }
-                slot = nextOf(slot);
+                slot = slotNexts[slot];
             }
             return NO_SLOT;
         }
 
-        /** The last property of o that stands before a new one with this KEY. */
-        private int slotBefore(int o, int key) {
+        /** The last property that stands before a new one with this KEY, in the row that begins at first. */
+        private int slotBefore(int first, int key) {
             int before = NO_SLOT;
-            int slot = firstSlotOf(o);
-            for (int i = 0; i < KEYS && slot != NO_SLOT && !standsBehind(keyOf(slot), key); i++) {
+            int slot = first;
+            for (int i = 0; i < KEYS && slot >= 0 && slot < MOST_PROPERTIES; i++) {
+                if (standsBehind(slotKeys[slot], key)) {
+                    return before;
+                }
                 before = slot;
-                slot = nextOf(slot);
+                slot = slotNexts[slot];
             }
             return before;
         }
@@ -1710,13 +1709,14 @@ public final class ObjectRules {
             if (!isSlot(slot)) {
                 throw new UnsupportedOperationException("more than 5,999 properties");
             }
-            firstFree = nextOf(slot);
+            firstFree = slotNexts[slot];
             slotKeys[slot] = key;
             slotValues[slot] = UNDEFINED;
             slotSetters[slot] = UNDEFINED;
             slotFlags[slot] = 0;
-            int before = slotBefore(o, key);
-            slotNexts[slot] = before == NO_SLOT ? firstSlotOf(o) : nextOf(before);
+            int first = firstSlotOf(o);
+            int before = slotBefore(first, key);
+            slotNexts[slot] = before == NO_SLOT ? first : nextOf(before);
             link(o, before, slot);
             return slot;
         }
@@ -1733,12 +1733,12 @@ public final class ObjectRules {
         void erase(int o, int key) {
             int before = NO_SLOT;
             int slot = firstSlotOf(o);
-            for (int i = 0; i < KEYS && slot != NO_SLOT && keyOf(slot) != key; i++) {
+            for (int i = 0; i < KEYS && isSlot(slot) && slotKeys[slot] != key; i++) {
                 before = slot;
-                slot = nextOf(slot);
+                slot = slotNexts[slot];
             }
             if (isSlot(slot)) {
-                link(o, before, nextOf(slot));
+                link(o, before, slotNexts[slot]);
                 slotNexts[slot] = firstFree;
                 firstFree = slot;
             }
@@ -1764,7 +1764,7 @@ public final class ObjectRules {
                 return false;
             }
             into.truths = slotFlags[slot] & ALL_TRUE;
-            if (isAccessor(slot)) {
+            if ((slotFlags[slot] & GET) != 0) {
                 into.putGetter(slotValues[slot]);
                 into.putSetter(slotSetters[slot]);
             } else {
@@ -1779,7 +1779,8 @@ public final class ObjectRules {
             if (!isSlot(slot)) {
                 return;
             }
-            boolean changesKind = isAccessor(slot) ? d.isData() : d.isAccessor();
+            boolean wasAccessor = (slotFlags[slot] & GET) != 0;
+            boolean changesKind = wasAccessor ? d.isData() : d.isAccessor();
             if (changesKind) {
                 slotFlags[slot] = (slotFlags[slot] ^ GET) & ~WRITABLE;
                 slotValues[slot] = UNDEFINED;
@@ -1801,10 +1802,10 @@ public final class ObjectRules {
         int pushKeys(int o, KeyLists lists) {
             int n = 0;
             int slot = firstSlotOf(o);
-            for (int i = 0; i < KEYS && slot != NO_SLOT; i++) {
-                lists.push(keyOf(slot));
+            for (int i = 0; i < KEYS && isSlot(slot); i++) {
+                lists.push(slotKeys[slot]);
                 n++;
-                slot = nextOf(slot);
+                slot = slotNexts[slot];
             }
             return n;
         }
