@@ -1,0 +1,133 @@
+/** FULL: more than 40 FUNCTIONS and internal methods of PROXIES under way in one another. */
+public final class LimitsOfDepth {
+    public static void main(String[] args) {
+        Check t = new Check();
+        proxies(t, 40);
+        proxies(t, 41);
+        getters(t);
+        setters(t);
+        mixed(t);
+        handlers(t);
+        oneAfterTheOther(t);
+        t.end();
+    }
+
+    private static void due(Check t, int n, Check.Call call, String what) {
+        if (n > 40) {
+            t.full(call, what + " through " + n);
+        } else {
+            t.is(1, Integer.parseInt(call.run().toString().replace("true", "1")), what + " through " + n);
+        }
+    }
+
+    private static void proxies(Check t, int n) {
+        ObjectRules x = new ObjectRules();
+        int target = x.make(x.make(-1));
+        x.set(target, 101, 1, 0, true);
+        int p = Kit.chain(x, target, n);
+        due(t, n, () -> x.get(p, 101, 0, true), "get");
+        due(t, n, () -> x.set(p, 101, 1, target, false), "set");
+        due(t, n, () -> x.has(p, 101, false), "has");
+        due(t, n, () -> x.has(p, 101, true), "has own");
+        due(t, n, () -> x.define(p, 102, 499, 1, 0), "define");
+        due(t, n, () -> x.about(p, 101, 1), "about");
+        due(t, n, () -> x.remove(p, 102), "remove");
+        due(t, n, () -> x.keys(p, true), "keys");
+        due(t, n, () -> x.parent(p) + 3, "parent");
+        due(t, n, () -> x.setParent(p, -1), "setParent");
+        due(t, n, () -> x.open(p), "open");
+        due(t, n, () -> x.assign(x.make(-1), p), "assign");
+        due(t, n, () -> x.shut(p), "shut");
+        due(t, n, () -> x.level(p, false, true), "level");
+        due(t, n, () -> x.level(p, true, true), "level asked");
+        t.is(0, x.count(1), "no FUNCTION was called");
+        if (n > 40) {
+            t.yes(x.open(target), "nothing came to the target");
+            t.illegal(() -> x.get(p, 250, 0, true), "no KEY is told before FULL");
+        }
+    }
+
+    /** n getters in one another, each of a KEY of its own. */
+    private static int getterChain(ObjectRules x, int n) {
+        int o = x.make(-1);
+        for (int i = 0; i < n; i++) {
+            x.define(o, 101 + i, Kit.GET, x.function(1, 102 + i, 0), 0);
+        }
+        x.set(o, 101 + n, 77, 0, true);
+        return o;
+    }
+
+    private static void getters(Check t) {
+        ObjectRules x = new ObjectRules();
+        int o = getterChain(x, 41);
+        t.is(77, x.get(o, 102, 0, true), "40 getters");
+        t.is(40, x.count(1), "were called");
+        t.full(() -> x.get(o, 101, 0, true), "41 getters");
+        t.is(77, x.get(o, 102, 0, true), "40 getters after FULL");
+    }
+
+    private static void setters(Check t) {
+        ObjectRules x = new ObjectRules();
+        int o = x.make(-1);
+        for (int i = 0; i < 41; i++) {
+            x.define(o, 101 + i, Kit.SET, 0, x.function(2, 102 + i, 0));
+        }
+        t.yes(x.set(o, 102, 8, 0, true), "40 setters");
+        t.is(8, x.get(o, 142, 0, true), "set what is behind them");
+        t.full(() -> x.set(o, 101, 9, 0, true), "41 setters");
+        t.is(8, x.get(o, 142, 0, true), "do not come so far");
+    }
+
+    /** A PROXY with a trap is two: its internal method and the FUNCTION. */
+    private static void mixed(Check t) {
+        ObjectRules x = new ObjectRules();
+        int target = x.make(-1);
+        x.set(target, 101, 5, 0, true);
+        int handler = Kit.handler(x, Kit.TRAP_GET, 4, 0);
+        int p = target;
+        for (int i = 0; i < 20; i++) {
+            p = x.proxy(p, handler);
+        }
+        int twenty = p;
+        t.is(5, x.get(twenty, 101, 0, true), "20 PROXIES and 20 FUNCTIONS");
+        t.is(20, x.count(1), "20 FUNCTIONS");
+        int one = x.proxy(twenty, x.make(-1));
+        t.full(() -> x.get(one, 101, 0, true), "21 PROXIES and 20 FUNCTIONS");
+        t.is(19, x.count(1), "the last of them was not called");
+        x.define(target, 102, Kit.GET, x.function(0, 0, 6), 0);
+        t.full(() -> x.get(twenty, 102, 0, true), "20 PROXIES and 21 FUNCTIONS");
+        t.is(20, x.count(1), "the last of them was not called");
+    }
+
+    /** A handler that is a PROXY is asked for the trap while the first one is under way. */
+    private static void handlers(Check t) {
+        ObjectRules x = new ObjectRules();
+        int target = x.make(-1);
+        x.set(target, 101, 5, 0, true);
+        int handler = x.make(-1);
+        for (int i = 0; i < 40; i++) {
+            handler = x.proxy(x.make(-1), handler);
+        }
+        int last = handler;
+        t.is(-1, x.get(last, 101, 0, true), "40 handlers");
+        int p = x.proxy(target, last);
+        t.full(() -> x.get(p, 101, 0, true), "41 handlers");
+        int h = x.make(-1);
+        int q = x.proxy(target, h);
+        x.setParent(h, q);
+        t.full(() -> x.get(q, 101, 0, true), "a handler below its own PROXY");
+        t.is(0, x.count(1), "calls nothing");
+    }
+
+    private static void oneAfterTheOther(Check t) {
+        ObjectRules x = new ObjectRules();
+        int target = x.make(-1);
+        for (int key = 0; key < 50; key++) {
+            x.set(target, key, 1, 0, true);
+        }
+        int p = x.proxy(target, Kit.reflectingHandler(x));
+        int to = x.make(-1);
+        t.is(50, x.assign(to, p), "many, but not in one another");
+        t.is(101, x.count(1), "FUNCTIONS were called");
+    }
+}
