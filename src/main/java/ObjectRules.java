@@ -161,12 +161,8 @@ public final class ObjectRules {
         requireValue(b);
         Descriptor given = descriptors.given(depth);
         given.readBits(fields, a, b);
-        if (given.holds(GET)) {
-            requireCallable(given.getter);
-        }
-        if (given.holds(SET)) {
-            requireCallable(given.setter);
-        }
+        requireCallable(given.getter);
+        requireCallable(given.setter);
         requireOneKind(given);
         return defineOn(o, key, given);
     }
@@ -806,26 +802,12 @@ public final class ObjectRules {
         Descriptor d = descriptors.ofLength(depth);
         d.copy(given);
         d.putValue(length);
-        int slot = store.find(a, LENGTH);
-        if (length >= store.valueAt(slot)) {
-            return ordinaryDefine(a, LENGTH, d);
-        }
-        if (!store.isWritable(slot)) {
-            return false;
-        }
-        boolean staysWritable = !d.holds(WRITABLE) || d.isTrue(WRITABLE);
-        // It stays writable until the elements are gone, for what stops them is told by the length.
-        if (!staysWritable) {
-            d.putFlag(WRITABLE, true);
-        }
         if (!ordinaryDefine(a, LENGTH, d)) {
             return false;
         }
         int left = store.cutElements(a, length);
-        store.putValueAt(slot, left);
-        if (!staysWritable) {
-            store.makeReadOnly(slot);
-        }
+        // Put past the rules, for an element that stays is told by the length even if that is read-only by now.
+        store.putValueAt(store.find(a, LENGTH), left);
         return left == length;
     }
 
@@ -917,7 +899,7 @@ public final class ObjectRules {
         if (!there || own.isTrue(CONFIGURABLE)) {
             throw new IllegalStateException("getOwnPropertyDescriptor: the target's is configurable, or there is none");
         }
-        if (told.holds(WRITABLE) && !told.isTrue(WRITABLE) && own.isTrue(WRITABLE)) {
+        if (!told.isTrue(WRITABLE) && own.isTrue(WRITABLE)) {
             throw new IllegalStateException("getOwnPropertyDescriptor: the target's is writable");
         }
     }
@@ -1153,12 +1135,6 @@ public final class ObjectRules {
         private int value;
         private int getter;
         private int setter;
-
-        Descriptor() {
-            value = UNDEFINED;
-            getter = UNDEFINED;
-            setter = UNDEFINED;
-        }
 
         void clear() {
             fields = 0;
@@ -1664,10 +1640,6 @@ public final class ObjectRules {
             if (isSlot(slot)) {
                 slotFlags[slot] = flags;
             }
-        }
-
-        void makeReadOnly(int slot) {
-            putFlagsAt(slot, flagsAt(slot) & ~WRITABLE);
         }
 
         int find(int o, int key) {

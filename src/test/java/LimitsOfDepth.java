@@ -9,6 +9,7 @@ public final class LimitsOfDepth {
         mixed(t);
         handlers(t);
         oneAfterTheOther(t);
+        askedTwice(t);
         t.end();
     }
 
@@ -129,5 +130,30 @@ public final class LimitsOfDepth {
         int to = x.make(-1);
         t.is(50, x.assign(to, p), "many, but not in one another");
         t.is(101, x.count(1), "FUNCTIONS were called");
+    }
+
+    /** A PROXY and its trap are 2, and 38 stand behind them; when the trap has answered, the 38 are asked again. */
+    private static void askedTwice(Check t) {
+        ObjectRules x = new ObjectRules();
+        int top = x.make(-1);
+        int target = x.make(top);
+        x.set(target, 101, 5, 0, true);
+        int p = x.proxy(Kit.chain(x, target, 38), Kit.reflectingHandler(x));
+        t.is(5, x.get(p, 101, 0, true), "get twice");
+        t.yes(x.set(p, 101, 6, target, false), "set twice");
+        t.yes(x.has(p, 101, false), "has");
+        t.no(x.has(p, 102, false), "has twice");
+        t.yes(x.define(p, 103, 499, 1, 0), "define twice");
+        t.is(1, x.about(p, 103, 1), "about twice");
+        t.yes(x.remove(p, 103), "remove twice");
+        t.is(1, x.keys(p, true), "keys twice");
+        t.is(top, x.parent(p), "parent twice");
+        t.yes(x.setParent(p, top), "setParent twice");
+        t.yes(x.open(p), "open twice");
+        t.yes(x.shut(p), "shut twice");
+        t.is(top, x.parent(p), "parent three times");
+        t.yes(x.setParent(p, top), "setParent three times");
+        t.no(x.has(p, 102, false), "has of one that is not extensible");
+        t.yes(x.level(p, false, true), "level");
     }
 }

@@ -3,6 +3,7 @@ public final class P04Function {
     public static void main(String[] args) {
         Check t = new Check();
         ordinary(t);
+        first(t);
         asGetters(t);
         asSetters(t);
         asTraps(t);
@@ -26,6 +27,15 @@ public final class P04Function {
         t.is(3, x.get(-2, 100, 0, true), "and it has");
         t.is(0, x.count(1), "none was called");
         t.is(-8, x.function(0, 0, -7), "an OBJECT as VALUE");
+    }
+
+    private static void first(Check t) {
+        ObjectRules x = new ObjectRules();
+        int f = x.function(3, 101, 77);
+        int o = x.make(-1);
+        x.define(o, 101, Kit.GET, f, 0);
+        t.thrown(() -> x.get(o, 101, 0, true), "OBJECT 0 is a FUNCTION");
+        t.is(77, x.count(3), "with its VALUE");
     }
 
     private static void asGetters(Check t) {

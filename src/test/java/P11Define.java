@@ -221,6 +221,14 @@ public final class P11Define {
         t.typeError(() -> x.define(p, 104, Kit.WRITABLE | Kit.CONFIGURABLE, 0, 0), "and not configurable");
         t.yes(x.define(p, 104, Kit.VALUE | Kit.WRITABLE_TRUE, 7, 0), "another value of a writable one");
         t.yes(x.define(p, 102, Kit.WRITABLE, 0, 0), "not writable, of a configurable one");
+        x.define(target, 105, Kit.WRITABLE_TRUE | Kit.ENUMERABLE_TRUE, 0, 0);
+        t.typeError(() -> x.define(p, 105, Kit.WRITABLE, 0, 0), "not writable, of a fixed one that is, and is enumerable");
+        x.define(target, 106, Kit.WRITABLE_TRUE | Kit.CONFIGURABLE_TRUE, 0, 0);
+        t.yes(x.define(p, 106, Kit.WRITABLE, 0, 0), "not writable, of one that is not enumerable");
+        int hidden = x.proxy(x.make(-1), Kit.handler(x, Kit.TRAP_OWN, 0, -1));
+        int outer = Kit.proxyGiving(x, hidden, Kit.TRAP_DEFINE, 1);
+        t.yes(x.define(p, 103, Kit.VALUE, 5, 0), "a fixed one is asked for");
+        t.yes(x.define(outer, 103, Kit.VALUE, 6, 0), "and nothing of it is left when another is told away");
         x.shut(target);
         t.typeError(() -> x.define(p, 101, Kit.VALUE, 5, 0), "what is not there, of a target that is not extensible");
         t.yes(x.define(p, 102, Kit.VALUE, 5, 0), "what is there, of such a target");

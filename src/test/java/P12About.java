@@ -7,6 +7,7 @@ public final class P12About {
         toldAway(t);
         told(t);
         reading(t);
+        completed(t);
         wrong(t);
         t.end();
     }
@@ -130,6 +131,9 @@ public final class P12About {
         t.typeError(() -> x.about(q, 101, 0), "a get that can not be called is told before set is read");
         t.is(1, x.count(1), "so it was not called");
 
+        int badSet = Kit.proxyGiving(x, target, Kit.TRAP_OWN, Kit.valueOf(x, new int[] {113, 115}, new int[] {5, 1}));
+        t.typeError(() -> x.about(badSet, 101, 0), "a set that can not be called");
+
         int above = Kit.descriptor(x, 4, 0, 1, 1);
         int inherits = Kit.proxyGiving(x, target, Kit.TRAP_OWN, x.make(above));
         t.data(x, inherits, 101, 6, 4, "fields may stand in the prototype");
@@ -137,6 +141,25 @@ public final class P12About {
         t.is(7, x.about(strings, 101, 0), "flags by ToBoolean");
         int nones = Kit.proxyGiving(x, target, Kit.TRAP_OWN, Kit.descriptor(x, 4, 0, -1, 1));
         t.is(4, x.about(nones, 101, 0), "0 and undefined are false");
+    }
+
+    /** What a PROXY tells is complete when the next one makes an OBJECT of it. */
+    private static void completed(Check t) {
+        ObjectRules x = new ObjectRules();
+        int target = x.make(-1);
+        int f = x.function(0, 0, 1);
+        int[][] told = {{110, 5}, {111, 1}, {112, f}, {113, f}, {114, 1}};
+        int[][] due = {{110, 111, 114, 115}, {110, 111, 114, 115}, {112, 113, 114, 115}, {112, 113, 114, 115},
+            {110, 111, 114, 115}};
+        for (int i = 0; i < told.length; i++) {
+            int o = Kit.valueOf(x, new int[] {115, told[i][0]}, new int[] {1, told[i][1]});
+            int outer = Kit.proxyReflecting(x, Kit.proxyGiving(x, target, Kit.TRAP_OWN, o), Kit.TRAP_OWN);
+            int made = -2 - x.count(0);
+            t.yes(x.has(outer, 101, true), "told by " + told[i][0]);
+            t.keys(x, made, "completed from " + told[i][0], due[i]);
+            t.is(told[i][1], x.get(made, told[i][0], 0, true), "with what was told by " + told[i][0]);
+            t.is(1, x.get(made, 115, 0, true), "and its configurable");
+        }
     }
 
     private static void wrong(Check t) {

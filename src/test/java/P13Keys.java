@@ -9,6 +9,7 @@ public final class P13Keys {
         invariants(t);
         wrong(t);
         limits(t);
+        room(t);
         t.end();
     }
 
@@ -124,6 +125,13 @@ public final class P13Keys {
         int one = x.proxy(target, handler);
         t.keys(x, Kit.proxyGiving(x, target, Kit.TRAP_KEYS, one), "a list that answers \"1\" to all", 1);
         t.is(3, x.count(1), "its length and its element are read");
+        int early = x.make(-1);
+        x.set(early, 100, 2, 0, true);
+        x.set(early, 0, 5, 0, true);
+        x.define(early, 1, Kit.GET, x.function(3, 0, 7), 0);
+        t.typeError(() -> x.keys(Kit.proxyGiving(x, target, Kit.TRAP_KEYS, early), true), "what is no KEY is told at once");
+        t.is(1, x.count(1), "the next is not read");
+
         int last = x.make(-1);
         x.define(last, 0, Kit.GET, x.function(0, 0, 1101), 0);
         x.define(last, 1, Kit.GET, x.function(0, 0, 1101), 0);
@@ -137,19 +145,26 @@ public final class P13Keys {
 
     private static void invariants(Check t) {
         ObjectRules x = new ObjectRules();
-        int target = x.make(-1);
-        x.set(target, 101, 1, 0, true);
-        x.define(target, 102, 0, 0, 0);
-        x.set(target, 103, 1, 0, true);
+        int loosest = x.make(-1);
+        x.set(loosest, 101, 1, 0, true);
+        x.define(loosest, 102, 0, 0, 0);
+        x.define(loosest, 103, Kit.CONFIGURABLE_TRUE, 0, 0);
         int fixed = Kit.list(x, 105, 102);
         int loose = Kit.list(x, 101, 103);
         int same = Kit.list(x, 103, 102, 101);
         int more = Kit.list(x, 103, 102, 101, 104);
         int fewer = Kit.list(x, 102, 101);
         int others = Kit.list(x, 102, 101, 104);
-        t.keys(x, Kit.proxyGiving(x, target, Kit.TRAP_KEYS, fixed), "the fixed one is there", 105, 102);
-        t.typeError(() -> x.keys(Kit.proxyGiving(x, target, Kit.TRAP_KEYS, loose), true), "the fixed one is missed");
-        t.keys(x, Kit.proxyGiving(x, target, Kit.TRAP_KEYS, more), "more than there are", 103, 102, 101, 104);
+        t.keys(x, Kit.proxyGiving(x, loosest, Kit.TRAP_KEYS, fixed), "the fixed one is there", 105, 102);
+        t.typeError(() -> x.keys(Kit.proxyGiving(x, loosest, Kit.TRAP_KEYS, loose), true), "the fixed one is missed");
+        t.keys(x, Kit.proxyGiving(x, loosest, Kit.TRAP_KEYS, more), "more than there are", 103, 102, 101, 104);
+        x.define(loosest, 104, Kit.ENUMERABLE_TRUE, 0, 0);
+        t.typeError(() -> x.keys(Kit.proxyGiving(x, loosest, Kit.TRAP_KEYS, fixed), true), "a fixed one that is enumerable is missed");
+
+        int target = x.make(-1);
+        x.set(target, 101, 1, 0, true);
+        x.define(target, 102, 0, 0, 0);
+        x.set(target, 103, 1, 0, true);
         x.shut(target);
         t.keys(x, Kit.proxyGiving(x, target, Kit.TRAP_KEYS, same), "not extensible: the same", 103, 102, 101);
         t.typeError(() -> x.keys(Kit.proxyGiving(x, target, Kit.TRAP_KEYS, more), true), "not extensible: more");
@@ -192,5 +207,33 @@ public final class P13Keys {
         t.is(100, x.count(2), "THE KEYS stay");
         t.is(101, x.keys(target, true), "the target itself has them");
         t.is(101, x.keys(x.proxy(target, x.make(-1)), true), "so has a PROXY without the trap");
+
+        int like = x.make(-1);
+        x.assign(like, target);
+        for (int i = 0; i < 100; i++) {
+            x.set(like, i, Kit.value(i), 0, true);
+        }
+        int length = x.function(0, 0, 101);
+        x.define(like, 100, Kit.GET, length, 0);
+        int q = Kit.proxyGiving(x, x.make(-1), Kit.TRAP_KEYS, like);
+        t.typeError(() -> x.keys(q, true), "a list of 101 has the element \"100\", which is undefined");
+        t.is(2, x.count(1), "the trap and the length were called once");
+    }
+
+    /** Lists of earlier calls, and of those that threw, take no room from later ones. */
+    private static void room(Check t) {
+        ObjectRules x = new ObjectRules();
+        int o = x.make(-1);
+        for (int key = 0; key < 250; key++) {
+            x.set(o, key, 1, 0, true);
+        }
+        int p = Kit.proxyThrowing(x, o, Kit.TRAP_OWN, 1);
+        for (int i = 0; i < 60; i++) {
+            x.keys(o, false);
+            t.thrown(() -> x.assign(o, p), "a list is left behind");
+        }
+        t.is(250, x.keys(o, true), "all KEYS, late");
+        t.is(0, x.key(0), "the first, late");
+        t.is(249, x.key(249), "the last, late");
     }
 }
