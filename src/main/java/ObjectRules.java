@@ -1327,7 +1327,8 @@ public final class ObjectRules {
 
     /** Lists of KEYS on top of one another, in one row: each PROXY on the way holds one while the next is asked. */
     private static final class KeyLists {
-        private static final int ROOM = 12000;
+        /** A list with one KEY too many shows already that it holds one twice; the last one is no PROXY's. */
+        private static final int ROOM = (MOST_UNDER_WAY + 1) * (KEYS + 1);
 
         private final int[] row = new int[ROOM];
         private final int[] seen = new int[KEYS];

@@ -50,6 +50,8 @@ public final class P03Array {
         t.yes(x.set(fixed, 101, 5, 0, true), "another String is not held by it");
         t.no(x.set(fixed, 100, 2, 0, true), "a fixed length is not set");
         t.yes(x.define(fixed, 100, Kit.VALUE, 2, 0), "a fixed length may be defined as it is");
+        t.yes(x.define(fixed, 100, Kit.VALUE, Kit.value(2), 0), "or as the String of what it is");
+        t.data(x, fixed, 100, 0, 2, "it is a Number still");
         t.no(x.define(fixed, 100, Kit.VALUE, 1, 0), "but no other");
         t.no(x.define(fixed, 100, Kit.WRITABLE_TRUE, 0, 0), "it is not made writable again");
 

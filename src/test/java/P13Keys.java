@@ -171,6 +171,11 @@ public final class P13Keys {
         t.typeError(() -> x.keys(Kit.proxyGiving(x, target, Kit.TRAP_KEYS, fewer), true), "not extensible: fewer");
         t.typeError(() -> x.keys(Kit.proxyGiving(x, target, Kit.TRAP_KEYS, others), true), "not extensible: others");
 
+        int single = x.make(-1);
+        x.define(single, 102, 0, 0, 0);
+        t.typeError(() -> x.keys(Kit.proxyGiving(x, single, Kit.TRAP_KEYS, loose), true), "the only one is missed");
+        t.typeError(() -> x.keys(Kit.proxyGiving(x, single, Kit.TRAP_KEYS, x.array(0)), true), "by a list of none");
+
         int inner = x.make(-1);
         x.set(inner, 101, 1, 0, true);
         x.set(inner, 102, 1, 0, true);
