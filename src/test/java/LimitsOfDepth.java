@@ -10,6 +10,12 @@ public final class LimitsOfDepth {
         handlers(t);
         oneAfterTheOther(t);
         askedTwice(t);
+        refusedInTraps(t);
+        refusedBehindTraps(t);
+        gettersOfTraps(t);
+        fieldsThatAreRead(t);
+        listsThatAreRead(t);
+        revokedAtTheEnd(t);
         t.end();
     }
 
@@ -155,5 +161,116 @@ public final class LimitsOfDepth {
         t.yes(x.setParent(p, top), "setParent three times");
         t.no(x.has(p, 102, false), "has of one that is not extensible");
         t.yes(x.level(p, false, true), "level");
+    }
+
+    /** A PROXY and its trap are 2, and 39 stand behind them: Reflect's function comes to the 41st. */
+    private static void refusedInTraps(Check t) {
+        ObjectRules x = new ObjectRules();
+        int target = x.make(x.make(-1));
+        x.set(target, 101, 5, 0, true);
+        int p = x.proxy(Kit.chain(x, target, 39), Kit.reflectingHandler(x));
+        String before = State.ofOne(x, target);
+        Check.Call[] calls = {
+            () -> x.get(p, 101, 0, true), () -> x.set(p, 101, 6, 0, true), () -> x.set(p, 101, 6, target, false),
+            () -> x.has(p, 101, false), () -> x.has(p, 101, true), () -> x.remove(p, 101),
+            () -> x.define(p, 101, Kit.VALUE, 6, 0), () -> x.about(p, 101, 0), () -> x.keys(p, true), () -> x.parent(p),
+            () -> x.setParent(p, -1), () -> x.open(p), () -> x.shut(p), () -> x.level(p, true, true),
+            () -> x.level(p, false, true), () -> x.assign(target, p), () -> x.assign(p, target)
+        };
+        for (int i = 0; i < calls.length; i++) {
+            t.full(calls[i], "call " + i + " with 41");
+            t.is(1, x.count(1), "call " + i + ", the trap was called");
+        }
+        t.same(before, State.ofOne(x, target), "nothing came to the target");
+        t.is(5, x.get(Kit.chain(x, target, 40), 101, 0, true), "40 after FULL");
+    }
+
+    /** The trap answers by itself; what its answer is held to stands 40 deep behind the PROXY. */
+    private static void refusedBehindTraps(Check t) {
+        ObjectRules x = new ObjectRules();
+        int target = x.make(-1);
+        int deep = Kit.chain(x, target, 39);
+        int deeper = x.proxy(deep, x.make(-1));
+        t.is(5, x.get(Kit.proxyGiving(x, deep, Kit.TRAP_GET, 5), 101, 0, true), "get with 40");
+        t.full(() -> x.get(Kit.proxyGiving(x, deeper, Kit.TRAP_GET, 5), 101, 0, true), "get with 41");
+        t.yes(x.set(Kit.proxyGiving(x, deep, Kit.TRAP_SET, 1), 101, 1, 0, true), "set with 40");
+        t.full(() -> x.set(Kit.proxyGiving(x, deeper, Kit.TRAP_SET, 1), 101, 1, 0, true), "set with 41");
+        t.no(x.set(Kit.proxyGiving(x, deeper, Kit.TRAP_SET, 0), 101, 1, 0, true), "set that refuses is held to nothing");
+        t.no(x.has(Kit.proxyGiving(x, deep, Kit.TRAP_HAS, 0), 101, false), "has with 40");
+        t.full(() -> x.has(Kit.proxyGiving(x, deeper, Kit.TRAP_HAS, 0), 101, false), "has with 41");
+        t.yes(x.has(Kit.proxyGiving(x, deeper, Kit.TRAP_HAS, 1), 101, false), "has that is true is held to nothing");
+        t.yes(x.remove(Kit.proxyGiving(x, deep, Kit.TRAP_DELETE, 1), 101), "remove with 40");
+        t.full(() -> x.remove(Kit.proxyGiving(x, deeper, Kit.TRAP_DELETE, 1), 101), "remove with 41");
+        t.yes(x.define(Kit.proxyGiving(x, deep, Kit.TRAP_DEFINE, 1), 101, 0, 0, 0), "define with 40");
+        t.full(() -> x.define(Kit.proxyGiving(x, deeper, Kit.TRAP_DEFINE, 1), 101, 0, 0, 0), "define with 41");
+        t.is(-1, x.about(Kit.proxyGiving(x, deep, Kit.TRAP_OWN, -1), 101, 0), "about with 40");
+        t.full(() -> x.about(Kit.proxyGiving(x, deeper, Kit.TRAP_OWN, -1), 101, 0), "about with 41");
+        int none = x.array(0);
+        t.is(0, x.keys(Kit.proxyGiving(x, deep, Kit.TRAP_KEYS, none), true), "keys with 40");
+        t.full(() -> x.keys(Kit.proxyGiving(x, deeper, Kit.TRAP_KEYS, none), true), "keys with 41");
+        t.is(none, x.parent(Kit.proxyGiving(x, deep, Kit.TRAP_GET_PROTOTYPE, none)), "parent with 40");
+        t.full(() -> x.parent(Kit.proxyGiving(x, deeper, Kit.TRAP_GET_PROTOTYPE, none)), "parent with 41");
+        t.yes(x.setParent(Kit.proxyGiving(x, deep, Kit.TRAP_SET_PROTOTYPE, 1), none), "setParent with 40");
+        t.full(() -> x.setParent(Kit.proxyGiving(x, deeper, Kit.TRAP_SET_PROTOTYPE, 1), none), "setParent with 41");
+        t.yes(x.open(Kit.proxyGiving(x, deep, Kit.TRAP_IS_EXTENSIBLE, 1)), "open with 40");
+        t.full(() -> x.open(Kit.proxyGiving(x, deeper, Kit.TRAP_IS_EXTENSIBLE, 1)), "open with 41");
+        x.shut(target);
+        t.yes(x.shut(Kit.proxyGiving(x, deep, Kit.TRAP_PREVENT_EXTENSIONS, 1)), "shut with 40");
+        t.full(() -> x.shut(Kit.proxyGiving(x, deeper, Kit.TRAP_PREVENT_EXTENSIONS, 1)), "shut with 41");
+    }
+
+    /** A getter that gives the trap has answered before the trap is called: they are not in one another. */
+    private static void gettersOfTraps(Check t) {
+        ObjectRules x = new ObjectRules();
+        int handler = x.make(-1);
+        int trap = x.function(0, 0, 5);
+        int getter = x.function(0, 0, trap);
+        x.define(handler, Kit.TRAP_GET, Kit.GET, getter, 0);
+        int p = x.proxy(x.make(-1), handler);
+        t.is(5, x.get(Kit.chain(x, p, 38), 101, 0, true), "39 PROXIES, the getter, then the trap");
+        t.called(x, "39 PROXIES", getter, trap);
+        t.full(() -> x.get(Kit.chain(x, p, 39), 101, 0, true), "40 PROXIES and the getter");
+        t.is(0, x.count(1), "which was not called");
+    }
+
+    /** ToPropertyDescriptor reads its fields while the PROXY's method is under way, but behind the trap. */
+    private static void fieldsThatAreRead(Check t) {
+        ObjectRules x = new ObjectRules();
+        int told = x.make(-1);
+        int reads = x.function(1, 101, 0);
+        x.define(told, 110, Kit.GET, reads, 0);
+        x.set(told, 115, 1, 0, true);
+        x.set(told, 101, 5, 0, true);
+        int handler = Kit.handler(x, Kit.TRAP_OWN, 0, told);
+        int p = x.proxy(x.make(-1), handler);
+        t.is(5, x.about(Kit.chain(x, p, 38), 101, 1), "39 PROXIES and a FUNCTION");
+        t.called(x, "39 PROXIES", Kit.functionOf(handler), reads);
+        t.full(() -> x.about(Kit.chain(x, p, 39), 101, 1), "40 PROXIES and a FUNCTION");
+        x.define(told, 111, Kit.GET, x.function(1, 110, 0), 0);
+        t.is(5, x.about(Kit.chain(x, p, 37), 101, 1), "38 PROXIES and two FUNCTIONS in one another");
+        t.full(() -> x.about(Kit.chain(x, p, 38), 101, 1), "39 PROXIES and two FUNCTIONS in one another");
+    }
+
+    private static void listsThatAreRead(Check t) {
+        ObjectRules x = new ObjectRules();
+        int list = x.make(-1);
+        x.set(list, 100, 1, 0, true);
+        x.define(list, 0, Kit.GET, x.function(0, 0, 1101), 0);
+        int p = Kit.proxyGiving(x, x.make(-1), Kit.TRAP_KEYS, list);
+        t.is(1, x.keys(Kit.chain(x, p, 38), true), "39 PROXIES and a FUNCTION");
+        t.full(() -> x.keys(Kit.chain(x, p, 39), true), "40 PROXIES and a FUNCTION");
+        int through = Kit.proxyGiving(x, x.make(-1), Kit.TRAP_KEYS, Kit.chain(x, Kit.list(x, 102), 39));
+        t.is(1, x.keys(through, true), "a PROXY and a list behind 39");
+        t.is(102, x.key(0), "its KEY");
+        int further = Kit.proxyGiving(x, x.make(-1), Kit.TRAP_KEYS, Kit.chain(x, Kit.list(x, 102), 40));
+        t.full(() -> x.keys(further, true), "a PROXY and a list behind 40");
+        t.is(102, x.key(0), "THE KEYS stay");
+    }
+
+    private static void revokedAtTheEnd(Check t) {
+        ObjectRules x = new ObjectRules();
+        int revoked = Kit.revoked(x);
+        t.typeError(() -> x.get(Kit.chain(x, revoked, 39), 101, 0, true), "the 40th is revoked");
+        t.full(() -> x.get(Kit.chain(x, revoked, 40), 101, 0, true), "the 41st is");
     }
 }

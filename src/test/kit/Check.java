@@ -23,6 +23,32 @@ final class Check {
         is(0, got ? 1 : 0, what);
     }
 
+    /** Two texts of State: what stays as it was. */
+    void same(String due, String got, String what) {
+        done++;
+        if (!got.equals(due)) {
+            wrong++;
+            System.out.println(what + ": shows\n  " + got + "\n  due is\n  " + due);
+        }
+    }
+
+    /** Whatever the call answers, its arguments are not refused. */
+    void taken(Call call, String what) {
+        done++;
+        try {
+            call.run();
+        } catch (IllegalArgumentException e) {
+            wrong++;
+            System.out.println(what + ": was refused");
+        } catch (RuntimeException e) {
+            return;
+        }
+    }
+
+    void outside(Call call, String what) {
+        fails(IndexOutOfBoundsException.class, call, what);
+    }
+
     void illegal(Call call, String what) {
         fails(IllegalArgumentException.class, call, what);
     }
