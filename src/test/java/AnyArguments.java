@@ -11,12 +11,13 @@ public final class AnyArguments {
 
     private final Random random = new Random(20261115);
     private ObjectRules x;
+    private int objects;
     private int wrong;
     private int proxies;
 
     public static void main(String[] args) {
         AnyArguments a = new AnyArguments();
-        for (int run = 0; run < 150; run++) {
+        for (int run = 0; run < 500; run++) {
             a.run();
         }
         if (a.wrong > 0) {
@@ -30,12 +31,16 @@ public final class AnyArguments {
         for (int i = 0; i < 8; i++) {
             x.make(-1);
         }
-        for (int i = 0; i < 400; i++) {
-            int n = x.count(0);
+        objects = 8;
+        // An object is used for at most 512 calls: these are four each.
+        for (int i = 0; i < 125; i++) {
             one(random.nextInt(21));
-            if (x.count(0) < n || x.count(0) > 600 || x.count(1) < 0 || x.count(1) > 2000) {
+            int n = x.count(0);
+            int called = x.count(1);
+            if (n < objects || n > 600 || called < 0 || called > 2000) {
                 tell("OBJECTS or FUNCTIONS that can not be so many");
             }
+            objects = n;
         }
     }
 
@@ -49,7 +54,7 @@ public final class AnyArguments {
     }
 
     private int object() {
-        return rare() ? odd() : -2 - random.nextInt(x.count(0));
+        return rare() ? odd() : -2 - random.nextInt(objects);
     }
 
     private int odd() {
@@ -77,7 +82,7 @@ public final class AnyArguments {
     }
 
     private boolean isObject(int v) {
-        return v <= -2 && v > -2 - x.count(0);
+        return v <= -2 && v > -2 - objects;
     }
 
     private boolean isKey(int key) {
@@ -145,9 +150,13 @@ public final class AnyArguments {
     }
 
     private void asked(int n) {
-        x.call(n);
-        due(n >= 0 && n <= 3, "count", () -> x.count(n));
-        boolean there = n >= 0 && n < x.count(2);
+        if (bool()) {
+            due(n >= 0 && n <= 3, "count", () -> x.count(n));
+            x.call(n);
+            return;
+        }
+        int held = x.count(2);
+        boolean there = n >= 0 && n < held;
         boolean told;
         try {
             x.key(n);
@@ -156,7 +165,7 @@ public final class AnyArguments {
             told = e.getClass() != IndexOutOfBoundsException.class;
         }
         if (there != told) {
-            tell("key(" + n + ") of " + x.count(2));
+            tell("key(" + n + ") of " + held);
         }
     }
 

@@ -12,6 +12,7 @@ public final class LimitsOfLists {
         length(t, 250, 0);
         otherLists(t);
         whatAsksForLists(t);
+        listsThatAreRead(t);
         t.end();
     }
 
@@ -76,5 +77,23 @@ public final class LimitsOfLists {
         t.data(x, target, 0, 7, 1, "and nothing else");
         t.full(() -> x.level(p, true, true), "level that is asked");
         t.is(before, x.count(0), "no list came to be");
+    }
+
+    /** No KEY is the String "100", so no list has an element behind 100, whatever else it has. */
+    private static void listsThatAreRead(Check t) {
+        ObjectRules x = new ObjectRules();
+        int list = x.make(-1);
+        for (int key = 0; key < 250; key++) {
+            x.set(list, key, 1000 + key, 0, true);
+        }
+        int p = Kit.proxyGiving(x, x.make(-1), Kit.TRAP_KEYS, list);
+        x.set(list, 100, 100, 0, true);
+        t.is(100, x.keys(p, true), "a list of 100 that is read");
+        t.is(99, x.key(99), "its last element");
+        for (int length : new int[] {101, 102, 250, 999}) {
+            x.set(list, 100, length, 0, true);
+            t.typeError(() -> x.keys(p, true), "a list of " + length + " that is read");
+            t.is(100, x.count(2), "THE KEYS stay, " + length);
+        }
     }
 }

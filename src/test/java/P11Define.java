@@ -87,6 +87,11 @@ public final class P11Define {
         t.yes(x.define(o, 101, Kit.SET, 0, g), "becomes an accessor once more");
         t.yes(x.define(o, 101, Kit.VALUE, 9, 0), "becomes a value that is not writable");
         t.data(x, o, 101, 4, 9, "not writable");
+        t.yes(x.define(o, 101, Kit.GET, f, 0), "becomes an accessor by get alone");
+        t.is(-1, x.about(o, 101, 2), "the set that it once had is gone");
+        t.yes(x.define(o, 101, Kit.VALUE, 9, 0), "becomes a value again");
+        t.yes(x.define(o, 101, Kit.SET, 0, g), "becomes an accessor by set alone");
+        t.is(-1, x.about(o, 101, 1), "the get that it once had is gone");
         t.keys(x, o, "it kept its place", 101, 102);
     }
 
