@@ -67,6 +67,7 @@ public final class ObjectRules {
     private final Store store = new Store();
     private final Descriptors descriptors = new Descriptors();
     private final KeyLists lists = new KeyLists();
+    private final Trapless trapless = new Trapless();
     /** What ordinaryDefine looks at; nothing else runs while it does. */
     private final Descriptor current = new Descriptor();
     private final int[] heldKeys = new int[KEYS];
@@ -75,6 +76,8 @@ public final class ObjectRules {
     private int calledCount;
     private int thrownLatest = UNDEFINED;
     private int depth;
+    /** The greatest depth since getTrapOf asked a handler. */
+    private int deepest;
 
     public ObjectRules() {
     }
@@ -260,6 +263,7 @@ public final class ObjectRules {
         depth = 0;
         calledCount = 0;
         lists.cutTo(0);
+        trapless.forget();
     }
 
     private void requireObject(int v) {
@@ -296,10 +300,15 @@ public final class ObjectRules {
     // ---------------------------------------------------------------- what is under way
 
     private void enter() {
-        if (depth >= MOST_UNDER_WAY) {
+        reach(depth + 1);
+        depth++;
+    }
+
+    private void reach(int level) {
+        if (level > MOST_UNDER_WAY) {
             throw new UnsupportedOperationException("more than 40 under way in one another");
         }
-        depth++;
+        deepest = Math.max(deepest, level);
     }
 
     private void enterProxy(int p) {
@@ -316,6 +325,7 @@ public final class ObjectRules {
         enter();
         called[calledCount] = f;
         calledCount++;
+        trapless.forget();
     }
 
     private void leave() {
@@ -570,11 +580,35 @@ public final class ObjectRules {
 
     /** GetMethod(the handler, the trap's name). */
     private int trapOf(int p, int name) {
-        int handler = store.handlerOf(p);
-        int trap = getFrom(handler, name, handler);
+        int trap = name == TRAP_GET ? getTrapOf(p) : askHandler(p, name);
         if (trap != UNDEFINED && !store.isFunction(trap)) {
             throw new IllegalStateException("a trap can not be called");
         }
+        return trap;
+    }
+
+    private int askHandler(int p, int name) {
+        int handler = store.handlerOf(p);
+        return getFrom(handler, name, handler);
+    }
+
+    /**
+     * PROXIES that are both target and handler of the next would be asked twice at each depth, 2 to the 40th times
+     * in all, were it not kept which of them have no such trap: no one could wait for the call to end.
+     */
+    private int getTrapOf(int p) {
+        if (trapless.holds(p)) {
+            reach(depth + trapless.heightOf(p));
+            return UNDEFINED;
+        }
+        int deepestBefore = deepest;
+        int momentBefore = trapless.moment();
+        deepest = depth;
+        int trap = askHandler(p, TRAP_GET);
+        if (trap == UNDEFINED && trapless.moment() == momentBefore) {
+            trapless.keep(p, deepest - depth);
+        }
+        deepest = Math.max(deepest, deepestBefore);
         return trap;
     }
 
@@ -733,6 +767,7 @@ public final class ObjectRules {
             return false;
         }
         store.erase(o, key);
+        trapless.forget();
         return true;
     }
 
@@ -772,6 +807,7 @@ public final class ObjectRules {
             return false;
         }
         store.write(slot == Store.NO_SLOT ? store.append(o, key) : slot, d);
+        trapless.forget();
         return true;
     }
 
@@ -999,6 +1035,7 @@ public final class ObjectRules {
             return false;
         }
         store.putParent(o, v);
+        trapless.forget();
         return true;
     }
 
@@ -1383,6 +1420,43 @@ public final class ObjectRules {
                 copied++;
             }
             return copied;
+        }
+    }
+
+    /** The PROXIES whose handlers gave no "get", till a FUNCTION is called or a property or a prototype changes. */
+    private static final class Trapless {
+        /** How many were under way in one another while the handler was asked. */
+        private final int[] heights = new int[MOST_OBJECTS];
+        private final int[] moments = new int[MOST_OBJECTS];
+        private int moment = 1;
+
+        int moment() {
+            return moment;
+        }
+
+        void forget() {
+            moment++;
+        }
+
+        void keep(int p, int height) {
+            int i = FIRST_OBJECT - p;
+            if (i >= 0 && i < MOST_OBJECTS) {
+                heights[i] = height;
+                moments[i] = moment;
+            }
+        }
+
+        boolean holds(int p) {
+            return at(p, moments) == moment;
+        }
+
+        int heightOf(int p) {
+            return at(p, heights);
+        }
+
+        private static int at(int p, int[] row) {
+            int i = FIRST_OBJECT - p;
+            return i >= 0 && i < row.length ? row[i] : 0;
         }
     }
 
