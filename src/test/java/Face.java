@@ -74,6 +74,10 @@ public final class Face {
             for (Method m : inner.getDeclaredMethods()) {
                 t.no(names.contains(m.getName()), "no name of the face: " + inner.getSimpleName() + "." + m.getName());
             }
+            for (Field f : inner.getDeclaredFields()) {
+                boolean constant = Modifier.isFinal(f.getModifiers()) && !f.getType().isArray();
+                t.yes(!Modifier.isStatic(f.getModifiers()) || constant, "no static state: " + f.getName());
+            }
         }
     }
 
