@@ -13,7 +13,6 @@ public final class AnyArguments {
     private ObjectRules x;
     private int objects;
     private int wrong;
-    private int proxies;
 
     public static void main(String[] args) {
         AnyArguments a = new AnyArguments();
@@ -27,7 +26,6 @@ public final class AnyArguments {
 
     private void run() {
         x = new ObjectRules();
-        proxies = 0;
         for (int i = 0; i < 8; i++) {
             x.make(-1);
         }
@@ -54,7 +52,11 @@ public final class AnyArguments {
     }
 
     private int object() {
-        return rare() ? odd() : -2 - random.nextInt(objects);
+        if (rare()) {
+            return odd();
+        }
+        // Often one of the latest, so that PROXIES stand on PROXIES.
+        return random.nextBoolean() ? -2 - random.nextInt(objects) : -2 - Math.max(0, objects - 1 - random.nextInt(4));
     }
 
     private int odd() {
@@ -111,13 +113,7 @@ public final class AnyArguments {
             case 0: due(a == -1 || isObject(a), "make", () -> x.make(a)); break;
             case 1: due(n >= 0 && n <= 100, "array", () -> x.array(n)); break;
             case 2: due(n >= 0 && n <= 5 && isKey(key) && isValue(a), "function", () -> x.function(n, key, a)); break;
-            case 3:
-                // Few of them: PROXIES of PROXIES with PROXIES as handlers ask each other without a bound that is near.
-                if (proxies < 7) {
-                    proxies++;
-                    due(isObject(o) && isObject(p), "proxy", () -> x.proxy(o, p));
-                }
-                break;
+            case 3: due(isObject(o) && isObject(p), "proxy", () -> x.proxy(o, p)); break;
             case 4: if (rare()) { revoked(o); } break;
             case 5: due(own && (c || isValue(a)), "get", () -> x.get(o, key, a, c)); break;
             case 6: case 7: case 8: due(own && isValue(a) && (c || isValue(b)), "set", () -> x.set(o, key, a, b, c)); break;
